@@ -1,0 +1,104 @@
+import java.nio.charset.StandardCharsets;
+
+/** What all tests share: telling texts, and comparing answers. */
+final class Kit {
+    private static int wrong = 0;
+    private static int right = 0;
+
+    interface Call {
+        Object answer();
+    }
+
+    private Kit() {
+    }
+
+    static void same(String what, Object due, Object got) {
+        if (due.equals(got)) {
+            right++;
+            return;
+        }
+        wrong++;
+        if (wrong <= 40) {
+            System.out.println(what + ": answered " + got + ", due is " + due);
+        }
+    }
+
+    /** The answer, or the exact name of the exception that was thrown. */
+    static Object answer(Call call) {
+        try {
+            return call.answer();
+        } catch (RuntimeException e) {
+            return e.getClass().getSimpleName();
+        }
+    }
+
+    static void due(String what, Object due, Call call) {
+        same(what, due, answer(call));
+    }
+
+    static void feedBytes(SecondPlace x, byte[] bytes) {
+        x.end(0);
+        for (int from = 0; from < bytes.length; from += 20) {
+            int[] n = new int[5];
+            for (int i = 0; i < 20 && from + i < bytes.length; i++) {
+                n[i / 4] |= (bytes[from + i] & 255) << 24 - 8 * (i % 4);
+            }
+            x.feed(n[0], n[1], n[2], n[3], n[4]);
+        }
+        if (!x.end(bytes.length)) {
+            throw new IllegalStateException("a test's text is too long");
+        }
+    }
+
+    static void feedText(SecondPlace x, String text) {
+        feedBytes(x, text.getBytes(StandardCharsets.ISO_8859_1));
+    }
+
+    static Object borough(SecondPlace x, String text) {
+        feedText(x, text);
+        return answer(() -> x.borough());
+    }
+
+    static Object law(SecondPlace x, String text) {
+        feedText(x, text);
+        return answer(() -> x.law());
+    }
+
+    static Object write(SecondPlace x, int heap, int... order) {
+        byte[] bytes = new byte[order.length];
+        for (int i = 0; i < order.length; i++) {
+            bytes[i] = (byte) order[i];
+        }
+        feedBytes(x, bytes);
+        return answer(() -> x.write(heap));
+    }
+
+    static SecondPlace told(String boroughText) {
+        SecondPlace x = new SecondPlace();
+        same("told: " + boroughText, 1, borough(x, boroughText));
+        return x;
+    }
+
+    static SecondPlace told(String boroughText, String lawText) {
+        SecondPlace x = told(boroughText);
+        Object lines = law(x, lawText);
+        same("law: " + lawText, true, lines instanceof Integer);
+        return x;
+    }
+
+    /** A slip or a want as letters. */
+    static String order(SecondPlace x, int heap, boolean want) {
+        StringBuilder s = new StringBuilder();
+        for (int p = 0; x.place(heap, p, want) != SecondPlace.NONE; p++) {
+            s.append((char) ('a' + x.place(heap, p, want)));
+        }
+        return s.toString();
+    }
+
+    static void finish() {
+        System.out.println(wrong == 0 ? right + " answers are as due" : wrong + " answers are not as due");
+        if (wrong != 0) {
+            System.exit(1);
+        }
+    }
+}
