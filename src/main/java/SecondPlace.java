@@ -468,7 +468,6 @@ public final class SecondPlace {
 
     public int round() {
         aside.copyFrom(now);
-        keepTrack(aside, 0);
         for (int n = 1; n <= AHEAD_LIMIT; n++) {
             judge.passYears(aside, 1, false);
             keepTrack(aside, n);

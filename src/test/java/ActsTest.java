@@ -102,6 +102,13 @@ public final class ActsTest {
         SecondPlace z = Kit.told("stand;heap 1 want a slip a price 1");
         Kit.same("alone", 1, z.pay(0, 0));
         Kit.same("alone: slip stays, paid", "a 1", Kit.order(z, 0, false) + " " + z.heap(0, 3));
+        SecondPlace v = Kit.told("stand;stand;stand;heap 1 want abc slip abc price 1", "give 1 if paid");
+        Kit.same("c ahead", 2, v.writes(0, 1, 0));
+        v.leave(2);
+        v.leave(1);
+        Kit.same("alone already", 0, v.friends(0));
+        v.pay(0, 0);
+        Kit.same("nobody of those who left", "a 1", Kit.order(v, 0, false) + " " + v.points(0));
     }
 
     private static void want() {
@@ -248,6 +255,16 @@ public final class ActsTest {
         }
         Kit.same("as ahead of all", start, all(x));
         Kit.same("the first years, too", true, x.undo());
+        x.years(60);
+        String full = all(x);
+        Kit.write(x, 0, 2, 1, 0);
+        x.habit(0, 3);
+        x.years(30);
+        x.undo();
+        x.undo();
+        x.undo();
+        Kit.same("rows that were written over are back", full, all(x));
+        x.undo();
         Kit.same("no more", false, x.undo());
         Kit.same("year 0", "0 -1 0", x.count(4) + " " + x.count(5) + " " + x.count(9));
         x.habit(0, 1);
@@ -305,6 +322,9 @@ public final class ActsTest {
         Kit.same("fault stays", 5, x.fault());
         Kit.borough(x, "heap 19 want cba slip cba price 1");
         Kit.same("another heap behind the same number", 2 * 19, x.gives(3, 0));
+        x.back();
+        Kit.borough(x, "heap 3 want cba slip cba price 1");
+        Kit.same("and another one by the same law", 2 * 3, x.gives(3, 0));
         Kit.same("back again", true, x.back());
         Kit.same("all is as it was again", before, all(x));
         x.habit(0, 3);

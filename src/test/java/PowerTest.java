@@ -63,8 +63,14 @@ public final class PowerTest {
         Kit.same("never", -1, none.friends(1));
         Kit.same("without heaps", "0 -1", Kit.told("stand;stand").friends(0) + " " + Kit.told("stand;stand").friends(1));
         Kit.same("nothing stays", 0, x.heap(1, 3));
-        SecondPlace few = Kit.told("stand;stand;heap 1 want ab slip ba price 1;heap 1 want ab slip ba price 1;heap 3 want ab slip ba price 99");
+        // Heaps 0 and 1 give b 4 past c's 3; heap 2 alone gives b 3 past 2 each.
+        SecondPlace few = Kit.told("stand;stand;stand;heap 2 want abc slip bac price 1;heap 2 want abc slip bca price 1;"
+            + "heap 3 want abc slip acb price 99");
         Kit.same("fewest heaps, not least bits", 4, few.friends(1));
+        Kit.same("cheaper by two", "3 4", few.cheapest(1, false) + " " + few.cheapest(1, true));
+        SecondPlace every = Kit.told("stand;stand;heap 2 want ab slip ba price 1;heap 2 want ab slip ba price 1", "give 1 if paid and one>0 and many>1;give 1 if one<1 and not paid");
+        Kit.same("one of two is as many", 3, every.friends(1));
+        Kit.same("all are needed", "3 4", every.cheapest(1, false) + " " + every.cheapest(1, true));
     }
 
     private static void paidFriends() {
@@ -76,6 +82,7 @@ public final class PowerTest {
         Kit.same("and costs again", 10, x.cheapest(2, true));
         SecondPlace alone = Kit.told("stand;heap 1 want a slip a price 1");
         Kit.same("alone", 0, alone.friends(0));
+        Kit.same("a slip of two", 1, Kit.told("stand;stand;heap 3 want ab slip ab price 1").bought(1));
     }
 
     private static void cheapest() {

@@ -25,6 +25,16 @@ public final class SlipsTest {
         Kit.same("paid", 1, x.heap(1, 3));
         Kit.law(x, "void if paid");
         Kit.same("void", "0 1", x.heap(0, 4) + " " + x.heap(1, 4));
+        Kit.law(x, "void if year>0 or standing<3 and many>2");
+        Kit.same("not yet", "0 0", x.heap(0, 4) + " " + x.heap(1, 4));
+        x.leave(0);
+        Kit.same("of two heap 0", "1 0", x.heap(0, 4) + " " + x.heap(1, 4));
+        x.undo();
+        x.years(1);
+        Kit.same("a year later", "1 1", x.heap(0, 4) + " " + x.heap(1, 4));
+        x.undo();
+        Kit.same("not yet again", 0, x.count(8));
+        Kit.law(x, "void if paid");
         Kit.due("no such heap", OUT, () -> x.heap(2, 0));
         Kit.due("heap below 0", OUT, () -> x.heap(-1, 0));
         Kit.due("heap told first", OUT, () -> x.heap(2, 8));
@@ -38,6 +48,7 @@ public final class SlipsTest {
         x.leave(1);
         Kit.same("alone all habits fit", 7, x.heap(0, 6));
         Kit.same("alone it could be that one", 1, x.heap(0, 7));
+        Kit.same("alone it can be void", "0 1", x.heap(0, 4) + " " + x.heap(1, 4));
         x.leave(0);
         Kit.same("nobody could be", 0, x.heap(0, 7));
         Kit.same("nobody: no lies", 0, x.heap(0, 5));
@@ -62,6 +73,7 @@ public final class SlipsTest {
         Kit.law(x, "give 7 if place<1;give 2 if last;give 1 if place<1 and one>1;void if first>0 and first<2");
         Kit.same("a void slip gives nothing", "0 0 0", x.gives(1, 0) + " " + x.gives(1, 1) + " " + x.gives(1, 2));
         Kit.same("the other one gives", "0 10 40", x.points(0) + " " + x.points(1) + " " + x.points(2));
+        Kit.same("only that one is void", "0 1 2", x.heap(0, 4) + " " + x.heap(1, 4) + " " + x.count(8));
         Kit.law(x, "give 1;void if place>0");
         Kit.same("void asks who is first", "8 8 8", x.points(0) + " " + x.points(1) + " " + x.points(2));
         Kit.law(x, "void;give 1");

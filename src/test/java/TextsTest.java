@@ -72,6 +72,7 @@ public final class TextsTest {
         Kit.same("lines", 3, Kit.borough(x, "  stand ;stand; heap 020want ba slip ab habit3 price099;stray 100 "));
         Kit.same("the tape is used up", false, x.end(1));
         Kit.same("fault", -1, x.fault());
+        Kit.same("give 0", 1, Kit.law(x, "give 0"));
         Kit.same("heap 0", "20 3 99 0 2", of(x, 0));
         Kit.same("want", "ba", Kit.order(x, 0, true));
         Kit.same("slip", "ab", Kit.order(x, 0, false));

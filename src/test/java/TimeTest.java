@@ -8,6 +8,7 @@ public final class TimeTest {
     public static void main(String[] args) {
         ahead();
         settles();
+        settlesLate();
         round();
         trial();
         span();
@@ -26,6 +27,10 @@ public final class TimeTest {
         Kit.due("too far", NO, () -> x.ahead(41));
         Kit.due("below", NO, () -> x.ahead(-1));
         Kit.same("nobody", -1, new SecondPlace().ahead(40));
+        SecondPlace y = Kit.told("stand;stand;stand;stray 40;heap 1 want abc slip abc price 1", "give 1 if place<1");
+        Kit.same("nobody strays ahead", "0 0 0 1", y.ahead(1) + " " + y.ahead(3) + " " + y.settles() + " " + y.round());
+        Kit.borough(y, "heap 1 want abc slip abc price 1;heap 1 want abc slip abc price 1;heap 1 want abc slip abc price 1");
+        Kit.same("not one of four", "0 1", y.settles() + " " + y.round());
         Kit.law(x, "give 1 if year<5 and one>1;give 1 if year>4 and one<1");
         Kit.same("by the year", "2 0", x.ahead(5) + " " + x.ahead(6));
         x.years(3);
@@ -46,24 +51,37 @@ public final class TimeTest {
         Kit.same("but in the second", 1, paid.round());
     }
 
+    /** Three years come round as long as this law holds; from the year on it gives nothing, and all settle within a year. */
+    private static SecondPlace turning(int year) {
+        return Kit.told("stand;stand;stand;stand;heap 1 want adbc slip dacb habit 2 price 1;heap 4 want dcab slip abcd habit 2 price 1;"
+            + "heap 4 want bacd slip badc habit 2 price 1;heap 2 want cbad slip badc habit 2 price 1",
+            "give 2 if place>0 and place<2 and year<" + year + ";give 1 if place>1 and place<3 and year<" + year);
+    }
+
+    private static void settlesLate() {
+        Kit.same("just so", 40, turning(39).settles());
+        Kit.same("a year too late", -1, turning(40).settles());
+        Kit.same("never, but it comes round", "-1 3", turning(999).settles() + " " + turning(999).round());
+        SecondPlace later = turning(40);
+        later.years(1);
+        Kit.same("a year later", 40, later.settles());
+    }
+
+    /** The shrewd heap puts a second, but b in those years in which the law gives a nothing there. */
+    private static SecondPlace shrewd(String otherYears, String years) {
+        return Kit.told("stand;stand;stand;heap 1 want abc slip abc habit 2 price 1", "give 1 if place<1;"
+            + "give 2 if place>0 and place<2 and one>0 and (" + otherYears + ");give 2 if place>0 and place<2 and (" + years + ")");
+    }
+
     private static void round() {
         Kit.same("nobody", 1, new SecondPlace().round());
         Kit.same("rests", 1, Kit.told(THREE).round());
-        // Behind c first, the shrewd heap puts second whom the year's law elects: a, then b, and so on.
-        SecondPlace x = Kit.told("stand;stand;stand;heap 1 want abc slip abc habit 2 price 1");
-        Kit.same("one who writes the same", 1, x.round());
-        SecondPlace late = Kit.told("stand;stand;stand;heap 1 want abc slip abc habit 2 price 1",
-            "give 1 if place<1;give 2 if year>38 and place>0 and place<2 and one>0;give 2 if year<39 and place>0 and place<2");
-        Kit.same("the 40th year differs from those before", -1, late.round());
-        Kit.same("but it rests at first", 1, late.settles());
-        SecondPlace sooner = Kit.told("stand;stand;stand;heap 1 want abc slip abc habit 2 price 1",
-            "give 1 if place<1;give 2 if year>37 and place>0 and place<2 and one>0;give 2 if year<38 and place>0 and place<2");
-        Kit.same("the 39th and 40th are alike", 1, sooner.round());
-        // In year 38 alone the slip is another one: 40 AHEAD is as 2 before that.
-        SecondPlace once = Kit.told("stand;stand;stand;heap 1 want abc slip abc habit 2 price 1",
-            "give 1 if place<1;give 2 if year>37 and year<39 and place>0 and place<2 and one>0;"
-            + "give 2 if year<38 and place>0 and place<2;give 2 if year>38 and place>0 and place<2");
-        Kit.same("as two years before", 2, once.round());
+        Kit.same("the 40th year differs from all before", -1, shrewd("year>38", "year<39").round());
+        Kit.same("though it rests at first", 1, shrewd("year>38", "year<39").settles());
+        Kit.same("the 39th and 40th are alike", 1, shrewd("year>37", "year<38").round());
+        Kit.same("as two years before", 2, shrewd("year>37 and year<39", "year<38 or year>38").round());
+        Kit.same("as twelve years before", 12, shrewd("year>27 and year<39", "year<28 or year>38").round());
+        Kit.same("as thirteen years before", -1, shrewd("year>26 and year<39", "year<27 or year>38").round());
     }
 
     private static void trial() {
@@ -86,16 +104,21 @@ public final class TimeTest {
 
     private static void span() {
         SecondPlace x = Kit.told("stand;stand;stand;stray 40;heap 1 want abc slip abc price 1", "give 1 if place<1");
-        int fewest = 99;
-        int most = 0;
-        for (int seed = 1; seed <= 6; seed++) {
-            x.seed(seed);
-            fewest = Math.min(fewest, x.trial(9, true));
-            most = Math.max(most, x.trial(9, true));
+        for (int n = 0; n <= 40; n++) {
+            int fewest = 99;
+            int most = 0;
+            for (int seed = 1; seed <= 6; seed++) {
+                x.seed(seed);
+                fewest = Math.min(fewest, x.trial(n, true));
+                most = Math.max(most, x.trial(n, true));
+            }
+            Kit.same("from 1 to 6, " + n, fewest + " " + most, x.span(n, false) + " " + x.span(n, true));
+            Kit.same("they differ far out, " + n, true, n < 20 || fewest < most);
         }
         x.seed(77);
-        Kit.same("from 1 to 6", fewest + " " + most, x.span(9, false) + " " + x.span(9, true));
-        Kit.same("they differ", true, fewest < most);
+        x.span(9, true);
+        SecondPlace y = Kit.told("stand;stand;stray 10;heap 1 want ab slip ab price 1", "give 1 if place<1");
+        Kit.same("1 12 9 11 5 8", "1 12", y.span(30, false) + " " + y.span(30, true));
         Kit.same("the seed stays", 77, x.seed(77));
         Kit.same("none", "0 0", x.span(0, false) + " " + x.span(0, true));
         Kit.same("one each", "1 1", x.span(1, false) + " " + x.span(1, true));
