@@ -95,6 +95,32 @@ final class Kit {
         return s.toString();
     }
 
+    /** All that can be seen of an object, but for fault() and the TAPE, by calls that change nothing. */
+    static String state(SecondPlace x) {
+        StringBuilder s = new StringBuilder("counts");
+        for (int what = 0; what <= 10; what++) {
+            s.append(' ').append(x.count(what));
+        }
+        int seed = x.seed(0);
+        x.seed(seed);
+        s.append(" seed ").append(seed);
+        for (int h = 0; h < x.count(1); h++) {
+            s.append(" heap ").append(order(x, h, true)).append(' ').append(order(x, h, false));
+            for (int what = 0; what < 4; what++) {
+                s.append(' ').append(x.heap(h, what));
+            }
+            for (int one = 0; one < x.count(0); one++) {
+                s.append(' ').append(x.gives(h, one));
+            }
+        }
+        s.append(" log");
+        for (int ago = 0; x.log(ago, 0) != -99; ago++) {
+            s.append(' ').append(x.log(ago, 0)).append(' ').append(x.log(ago, 1));
+            s.append(' ').append(x.log(ago, 2)).append(' ').append(x.log(ago, 3));
+        }
+        return s.toString();
+    }
+
     static void finish() {
         System.out.println(wrong == 0 ? right + " answers are as due" : wrong + " answers are not as due");
         if (wrong != 0) {
