@@ -1,4 +1,6 @@
+import java.lang.reflect.InvocationTargetException;
 import java.nio.charset.StandardCharsets;
+import java.util.Arrays;
 
 /** What all tests share: telling texts, and comparing answers. */
 final class Kit {
@@ -34,6 +36,25 @@ final class Kit {
 
     static void due(String what, Object due, Call call) {
         same(what, due, answer(call));
+    }
+
+    /** A call by its name; the answer, or the exact name of the exception. */
+    static Object ask(SecondPlace x, String name, Object... args) {
+        Class<?>[] types = new Class<?>[args.length];
+        for (int i = 0; i < args.length; i++) {
+            types[i] = args[i] instanceof Boolean ? boolean.class : int.class;
+        }
+        try {
+            return SecondPlace.class.getMethod(name, types).invoke(x, args);
+        } catch (InvocationTargetException e) {
+            return e.getCause().getClass().getSimpleName();
+        } catch (ReflectiveOperationException e) {
+            throw new IllegalStateException(e);
+        }
+    }
+
+    static void asked(String when, SecondPlace x, Object due, String name, Object... args) {
+        same(when + ": " + name + Arrays.toString(args), due, ask(x, name, args));
     }
 
     static void feedBytes(SecondPlace x, byte[] bytes) {
