@@ -24,6 +24,8 @@ public final class LimitsTest {
         backLeavesAlone();
         backWithoutImage();
         fullBorough();
+        fullBoroughInTime();
+        fullBoroughLeaves();
         fullLaw();
         whats();
         extremePlaces();
@@ -448,6 +450,45 @@ public final class LimitsTest {
         Kit.same("the last two", 1, x.want(7, 5, 4));
         Kit.same("a slip of six", 6, Kit.write(x, 7, 5, 4, 3, 2, 1, 0));
         Kit.same("no slip of seven", NO, Kit.write(x, 7, 5, 4, 3, 2, 1, 0, 6));
+    }
+
+    private static void fullBoroughInTime() {
+        SecondPlace x = full();
+        // All slips are abcdef: no heap of 20 can make another one elected against 140.
+        Kit.same("rests", "true false", x.rests() + " " + x.gains(7));
+        Kit.same("the first order", "0 5", x.best(7, 0) + " " + x.best(7, 5));
+        Kit.same("habit 3 rests", "0 1", x.settles() + " " + x.round());
+        Kit.same("ahead, trial, span", "1 1 1 1 1", x.ahead(40) + " " + x.trial(40, false) + " " + x.trial(40, true) + " "
+            + x.span(40, false) + " " + x.span(40, true));
+        for (int h = 0; h < 8; h++) {
+            x.habit(h, h % 3);
+        }
+        // Want fedcba, turned to af, a first: habit 1 and 2 write afedcb.
+        Kit.same("by habits", "5 4 0 5", x.writes(7, 0, 0) + " " + x.writes(7, 0, 1) + " " + x.writes(7, 1, 0) + " " + x.writes(7, 1, 1));
+        Kit.same("settles in a year", "1 1", x.settles() + " " + x.round());
+        Kit.same("a year", 1, x.years(1));
+        Kit.same("f is elected: 100 to 60", "5 100 60", x.log(0, 1) + " " + x.log(0, 2) + " " + x.log(0, 3));
+        Kit.same("slips", "fedcba afedcb afedcb fedcba", Kit.order(x, 0, false) + " " + Kit.order(x, 1, false) + " "
+            + Kit.order(x, 2, false) + " " + Kit.order(x, 6, false));
+        Kit.same("spoilers", 0, x.spoilers() & 32);
+    }
+
+    /** From six to nobody; the letters go up each time. */
+    private static void fullBoroughLeaves() {
+        SecondPlace x = full();
+        String[] wants = {"edcba", "dcba", "cba", "ba", "a", ""};
+        String[] slips = {"abcde", "abcd", "abc", "ab", "a", ""};
+        for (int i = 0; i < 6; i++) {
+            Kit.same("left", 5 - i, x.leave(i % 2 == 0 ? 0 : 5 - i));
+            for (int h = 0; h < 8; h++) {
+                Kit.same("want", wants[i], Kit.order(x, h, true));
+                Kit.same("slip", slips[i], Kit.order(x, h, false));
+            }
+        }
+        for (int i = 0; i < 6; i++) {
+            x.undo();
+        }
+        Kit.same("all are back", "fedcba abcdef", Kit.order(x, 7, true) + " " + Kit.order(x, 7, false));
     }
 
     /** Twelve LINES of twenty for all: the most POINTS there can be. */

@@ -10,6 +10,7 @@ public final class SlipsTest {
         writes();
         shrewdHabit();
         could();
+        asTheyAreByThen();
         Kit.finish();
     }
 
@@ -152,5 +153,30 @@ public final class SlipsTest {
         Kit.law(x, "give 1 if place<1 and not paid");
         x.pay(0, 1);
         Kit.same("paid as it is", 1, x.heap(0, 7));
+    }
+
+    /** last, standing, many, year, paid: a law holds by what is now, whatever was asked before. */
+    private static void asTheyAreByThen() {
+        SecondPlace x = Kit.told("stand;stand;stand;heap 4 want abc slip abc price 1", "give 1 if last;give 2 if standing<3");
+        Kit.same("of three", "0 0 4", x.points(0) + " " + x.points(1) + " " + x.points(2));
+        x.leave(2);
+        Kit.same("of two", "8 12", x.points(0) + " " + x.points(1));
+        x.undo();
+        Kit.same("of three again", "0 0 4", x.points(0) + " " + x.points(1) + " " + x.points(2));
+        Kit.law(x, "give 1 if year>0;give 2 if paid");
+        Kit.same("year 0", 0, x.points(1));
+        x.pay(0, 0);
+        Kit.same("paid", 8, x.points(1));
+        x.years(1);
+        Kit.same("year 1", 4, x.points(1));
+        x.pay(0, 0);
+        Kit.same("both", 12, x.points(1));
+        x.undo();
+        x.undo();
+        Kit.same("year 0, paid", 8, x.points(1));
+        x.undo();
+        Kit.same("year 0 again", 0, x.points(1));
+        Kit.same("ahead by years", "0 0 1", x.points(2) + " " + x.count(4) + " " + (x.ahead(3) + 1));
+        Kit.same("and still now", 0, x.points(2));
     }
 }

@@ -25,6 +25,7 @@ public final class TextEdgesTest {
         noLine();
         longestTexts();
         faultOfTheLatest();
+        nothingStaysOfAWrongHeap();
         Kit.finish();
     }
 
@@ -357,6 +358,13 @@ public final class TextEdgesTest {
         right("stand", "heap 1want a slip a habit1price1;stray0;stand");
         wrong("stand", "stands", 0);
         wrong("stand", "stan", 0);
+        wrong("stand", "xtand", 0);
+        wrong("stand", "ttand", 0);
+        wrong("stand", "yeap 1 want a slip a price 1", 0);
+        wrong("stand", "heap 1 vant a slip a price 1", 7);
+        wrong("stand", "heap 1 want a flip a price 1", 14);
+        wrong("stand", "heap 1 want a slip a rabit 1 price 1", 21);
+        wrong("stand", "heap 1 want a slip a grice 1", 21);
         wrong("stand", "standstand", 0);
         wrong("stand", "Stand", 0);
         wrong("stand", "stanD", 0);
@@ -374,6 +382,15 @@ public final class TextEdgesTest {
         rightLaw("give 1if place<1and not(paid)or last", 1);
         wrongLaw("gives 1", 0);
         wrongLaw("giv 1", 0);
+        wrongLaw("live 1", 0);
+        wrongLaw("avid", 0);
+        wrongLaw("void of paid", 5);
+        wrongLaw("void if laid", 8);
+        wrongLaw("void if past", 8);
+        wrongLaw("void if glace < 1", 8);
+        wrongLaw("void if ant paid", 8);
+        wrongLaw("void if paid ar last", 13);
+        wrongLaw("void if paid end last", 13);
         wrongLaw("voidif paid", 0);
         wrongLaw("void ifpaid", 5);
         wrongLaw("void iff paid", 5);
@@ -549,5 +566,27 @@ public final class TextEdgesTest {
         Kit.same("nor is anything else", 0, x.fault());
         Kit.law(x, "void");
         Kit.same("none again", -1, x.fault());
+    }
+
+    /** "Of a wrong text nothing stays": a heap told later has its own HABIT (0 without), and is not PAID. */
+    private static void nothingStaysOfAWrongHeap() {
+        SecondPlace x = Kit.told("stand;stand;heap 1 want ab slip ba price 1");
+        Kit.same("wrong behind its habit", NO, Kit.borough(x, "heap 20 want ba slip ba habit 3 price 0"));
+        Kit.same("a right one without", 2, Kit.borough(x, "heap 2 want ab slip ab price 5"));
+        Kit.same("habit 0", "2 0 5 0 ab ab", x.heap(1, 0) + " " + x.heap(1, 1) + " " + x.heap(1, 2) + " " + x.heap(1, 3) + " "
+            + Kit.order(x, 1, true) + " " + Kit.order(x, 1, false));
+        Kit.same("wrong in a later line", NO, Kit.borough(x, "heap 20 want ba slip ba habit 2 price 9;stray 50;stand;stand;x"));
+        Kit.same("the want is of two still", "ab 2 0", Kit.order(x, 0, true) + " " + x.count(0) + " " + x.count(6));
+        x.image();
+        Kit.same("a third heap", 3, Kit.borough(x, "heap 7 want ba slip ab habit 1 price 2"));
+        x.pay(2, 0);
+        x.spoilers();
+        x.trial(1, true);
+        x.pay(1, 1);
+        x.spoilers();
+        x.back();
+        Kit.same("another third heap", 3, Kit.borough(x, "heap 3 want ab slip ab price 4"));
+        Kit.same("is not paid", "3 0 4 0", x.heap(2, 0) + " " + x.heap(2, 1) + " " + x.heap(2, 2) + " " + x.heap(2, 3));
+        Kit.same("nor is the second", 0, x.heap(1, 3));
     }
 }
