@@ -10,6 +10,7 @@ public final class ActsTest {
         habit();
         leave();
         pay();
+        payAgain();
         want();
         years();
         strayYears();
@@ -109,6 +110,33 @@ public final class ActsTest {
         Kit.same("alone already", 0, v.friends(0));
         v.pay(0, 0);
         Kit.same("nobody of those who left", "a 1", Kit.order(v, 0, false) + " " + v.points(0));
+    }
+
+    /** "IllegalStateException: it is PAID": no longer behind a year, or undone, or gone back. */
+    private static void payAgain() {
+        SecondPlace x = Kit.told(THREE);
+        x.image();
+        Kit.same("first", 12, x.pay(1, 2));
+        Kit.due("again", "IllegalStateException", () -> x.pay(1, 2));
+        Kit.same("another heap", 10, x.pay(0, 2));
+        x.undo();
+        x.undo();
+        Kit.due("undone", 12, () -> x.pay(1, 0));
+        x.years(1);
+        Kit.due("a year later", 12, () -> x.pay(1, 0));
+        x.leave(2);
+        Kit.due("paid still, though one has left", "IllegalStateException", () -> x.pay(1, 0));
+        x.habit(1, 3);
+        Kit.same("a slip told", 2, Kit.write(x, 1, 1, 0));
+        Kit.due("paid still, though its slip was told", "IllegalStateException", () -> x.pay(1, 0));
+        Kit.borough(x, "stand");
+        Kit.due("paid still, though one came", "IllegalStateException", () -> x.pay(1, 0));
+        x.back();
+        Kit.due("gone back", 12, () -> x.pay(1, 0));
+        x.image();
+        x.years(1);
+        x.back();
+        Kit.due("the image has it paid", "IllegalStateException", () -> x.pay(1, 0));
     }
 
     private static void want() {

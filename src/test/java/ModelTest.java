@@ -38,6 +38,9 @@ public final class ModelTest {
         }
         face.sort((a, b) -> a.getName().compareTo(b.getName()));
         int style = random.nextInt(4);
+        if (random.nextInt(6) == 0) {
+            tellFull();
+        }
         for (int i = 0; i < 230 && !differed; i++) {
             int what = random.nextInt(100);
             if (what < 4 || i < 3 + style) {
@@ -62,6 +65,15 @@ public final class ModelTest {
         if (differed) {
             System.out.println("run " + seed + ":");
             story.forEach(line -> System.out.println("  " + line));
+        }
+    }
+
+    /** Six who stand and eight heaps, so that every row is full. */
+    private void tellFull() throws Exception {
+        tellText("stand;stand;stand;stand;stand;stand;stray " + random.nextInt(101), "borough");
+        for (int i = 0; i < 8; i++) {
+            tellText("heap " + (1 + random.nextInt(20)) + " want " + letters(6) + " slip " + letters(6) + " habit " + random.nextInt(4)
+                + " price " + (1 + random.nextInt(99)), "borough");
         }
     }
 
