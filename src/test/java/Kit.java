@@ -110,13 +110,18 @@ final class Kit {
     /** A slip or a want as letters. */
     static String order(SecondPlace x, int heap, boolean want) {
         StringBuilder s = new StringBuilder();
-        for (int p = 0; x.place(heap, p, want) != SecondPlace.NONE; p++) {
-            s.append((char) ('a' + x.place(heap, p, want)));
+        int one = x.place(heap, 0, want);
+        for (int p = 1; one != SecondPlace.NONE; p++) {
+            s.append((char) ('a' + one));
+            one = x.place(heap, p, want);
         }
         return s.toString();
     }
 
-    /** All that can be seen of an object, but for fault() and the TAPE, by calls that change nothing. */
+    /**
+     * All that can be seen of an object, but for fault() and the TAPE, by calls that change nothing; of THE LOG the latest
+     * three rows and the last one, because an object has 512 calls alone.
+     */
     static String state(SecondPlace x) {
         StringBuilder s = new StringBuilder("counts");
         for (int what = 0; what <= 10; what++) {
@@ -125,18 +130,20 @@ final class Kit {
         int seed = x.seed(0);
         x.seed(seed);
         s.append(" seed ").append(seed);
-        for (int h = 0; h < x.count(1); h++) {
+        int heaps = x.count(1);
+        int standing = x.count(0);
+        for (int h = 0; h < heaps; h++) {
             s.append(" heap ").append(order(x, h, true)).append(' ').append(order(x, h, false));
             for (int what = 0; what < 4; what++) {
                 s.append(' ').append(x.heap(h, what));
             }
-            for (int one = 0; one < x.count(0); one++) {
+            for (int one = 0; one < standing; one++) {
                 s.append(' ').append(x.gives(h, one));
             }
         }
-        s.append(" log");
-        for (int ago = 0; x.log(ago, 0) != -99; ago++) {
-            s.append(' ').append(x.log(ago, 0)).append(' ').append(x.log(ago, 1));
+        int rows = x.count(9);
+        for (int ago = 0; ago < rows; ago += ago < 2 || ago == rows - 1 ? 1 : rows - 1 - ago) {
+            s.append(" row ").append(x.log(ago, 0)).append(' ').append(x.log(ago, 1));
             s.append(' ').append(x.log(ago, 2)).append(' ').append(x.log(ago, 3));
         }
         return s.toString();

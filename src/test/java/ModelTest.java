@@ -14,6 +14,7 @@ public final class ModelTest {
     private Model model = new Model();
     private final List<String> story = new ArrayList<>();
     private boolean differed = false;
+    private int calls = 0;
 
     private ModelTest(long seed) {
         random = new Random(seed);
@@ -41,7 +42,8 @@ public final class ModelTest {
         if (random.nextInt(6) == 0) {
             tellFull();
         }
-        for (int i = 0; i < 230 && !differed; i++) {
+        // An object has 512 calls, and a text takes some twenty.
+        for (int i = 0; i < 230 && calls < 480 && !differed; i++) {
             int what = random.nextInt(100);
             if (what < 4 || i < 3 + style) {
                 tellText(boroughText(), "borough");
@@ -78,7 +80,7 @@ public final class ModelTest {
     }
 
     private void allLeave() throws Exception {
-        for (int left = x.count(0); left > 0; left--) {
+        for (int left = model.count(0); left > 0; left--) {
             call("leave", random.nextInt(left));
         }
     }
@@ -104,6 +106,7 @@ public final class ModelTest {
     }
 
     private Object call(String name, Object... args) throws Exception {
+        calls++;
         Object due = answer(model, name, args);
         Object got = answer(x, name, args);
         String told = name + Arrays.toString(args) + " -> " + got;
@@ -134,13 +137,13 @@ public final class ModelTest {
     }
 
     private void tellSlip() throws Exception {
-        int n = Math.max(0, x.count(0) + (random.nextInt(8) == 0 ? random.nextInt(3) - 1 : 0));
+        int n = Math.max(0, model.count(0) + (random.nextInt(8) == 0 ? random.nextInt(3) - 1 : 0));
         byte[] order = bytesOf(shuffled(n));
         if (n > 0 && random.nextInt(8) == 0) {
             order[random.nextInt(n)] = (byte) random.nextInt(256);
         }
         feedAll(order);
-        call("write", random.nextInt(Math.max(1, x.count(1)) + (random.nextInt(8) == 0 ? 1 : 0)));
+        call("write", random.nextInt(Math.max(1, model.count(1)) + (random.nextInt(8) == 0 ? 1 : 0)));
     }
 
     private byte[] bytesOf(List<Integer> order) {
@@ -176,8 +179,8 @@ public final class ModelTest {
     }
 
     private String boroughText() {
-        int standing = x.count(0);
-        int heaps = x.count(1);
+        int standing = model.count(0);
+        int heaps = model.count(1);
         StringBuilder s = new StringBuilder();
         int lines = random.nextInt(8) == 0 ? 0 : 1 + random.nextInt(5);
         for (int i = 0; i < lines; i++) {

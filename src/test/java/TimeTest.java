@@ -103,8 +103,9 @@ public final class TimeTest {
     }
 
     private static void span() {
-        SecondPlace x = Kit.told("stand;stand;stand;stray 40;heap 1 want abc slip abc price 1", "give 1 if place<1");
+        String told = "stand;stand;stand;stray 40;heap 1 want abc slip abc price 1";
         for (int n = 0; n <= 40; n++) {
+            SecondPlace x = Kit.told(told, "give 1 if place<1");
             int fewest = 99;
             int most = 0;
             for (int seed = 1; seed <= 6; seed++) {
@@ -115,6 +116,7 @@ public final class TimeTest {
             Kit.same("from 1 to 6, " + n, fewest + " " + most, x.span(n, false) + " " + x.span(n, true));
             Kit.same("they differ far out, " + n, true, n < 20 || fewest < most);
         }
+        SecondPlace x = Kit.told(told, "give 1 if place<1");
         x.seed(77);
         x.span(9, true);
         SecondPlace y = Kit.told("stand;stand;stray 10;heap 1 want ab slip ab price 1", "give 1 if place<1");
