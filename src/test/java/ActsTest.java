@@ -14,6 +14,7 @@ public final class ActsTest {
         want();
         years();
         strayYears();
+        straysAheadOfTheNext();
         yearsTogether();
         log();
         seed();
@@ -201,6 +202,16 @@ public final class ActsTest {
         z.seed(1);
         z.years(1);
         Kit.same("draws without straying", 1103527590, z.seed(0));
+    }
+
+    /** Heap 0 has strayed (38 of 39) when heap 1 writes: c has all, so d may stand second; else c would have to. */
+    private static void straysAheadOfTheNext() {
+        SecondPlace x = Kit.told("stand;stand;stand;stand;stray 39;heap 3 want abcd slip abcd price 1;"
+            + "heap 2 want dcba slip dcba habit 2 price 1;heap 2 want abcd slip acbd habit 3 price 1");
+        Kit.same("as it is now", 2, x.writes(1, 2, 1));
+        x.years(1);
+        Kit.same("by slips as they are by then", "dcba adcb dbca", Kit.order(x, 0, false) + " " + Kit.order(x, 1, false) + " "
+            + Kit.order(x, 2, false));
     }
 
     /** Heap 1 looks at heap 0's slip as it is by then. */
